@@ -147,7 +147,7 @@ public final class FaxFilter {
         receiver.begin();
         boolean goesOn = true;
         for (int i = 0; i < most && goesOn; i++) {
-            goesOn = receiver.nextRow();
+            goesOn = receiver.reachRow() && receiver.readRow();
         }
         return picture.rows;
     }
@@ -687,7 +687,8 @@ public final class FaxFilter {
         private final Table whiteTable;
         private final Table darkTable;
         private final BitsIn in;
-        // Up to where the row that is being read stands, and whether something of it was cut.
+        // Of the row that is being read: its way, up to where it stands, whether it was cut.
+        private boolean isPlain;
         private int reached;
         private boolean isCut;
 
@@ -705,41 +706,37 @@ public final class FaxFilter {
             damaged = 0;
         }
 
-        /** Reads one row more; whether reading goes on behind it. */
-        boolean nextRow() {
+        /** Passes what stands before a row; whether there may be one. */
+        boolean reachRow() {
             boolean marks = settings.hasMarks();
             if (marks && !in.passMark()) {
                 return false;
             }
-            boolean plain = settings.kind == ALL_PLAIN;
+            isPlain = settings.kind == ALL_PLAIN;
             if (settings.kind == MIXED) {
                 if (in.left() < 1) {
                     return false;
                 }
-                plain = in.peek(1) == 1;
+                isPlain = in.peek(1) == 1;
                 in.pass(1);
             }
             if (!marks && settings.aligned) {
                 in.passToByte();
             }
-            if ((marks || settings.kind == ALL_DRAWN) && in.isMarkNext()) {
-                return false;
-            }
-            int state = readRow(plain);
-            if (state == ENDED) {
-                return false;
-            }
-            picture.keep(state);
-            return state != DAMAGED || marks && damaged < MOST_DAMAGED;
+            boolean mayEndHere = marks || settings.kind == ALL_DRAWN;
+            return !(mayEndHere && in.isMarkNext());
         }
 
-        /** Reads a row behind the last one of the picture: its state, or ENDED. */
-        private int readRow(boolean plain) {
+        /** Reads a row behind the last one of the picture; whether reading goes on behind it. */
+        boolean readRow() {
             int row = picture.rows;
             picture.whiten(row);
             reached = 0;
             isCut = false;
-            int state = plain ? readPlain(row) : readDrawn(row);
+            int state = isPlain ? readPlain(row) : readDrawn(row);
+            if (state == ENDED) {
+                return false;
+            }
             if (state == DAMAGED) {
                 damaged++;
                 if (settings.repeatDamaged) {
@@ -748,7 +745,8 @@ public final class FaxFilter {
                     picture.whiten(row);
                 }
             }
-            return state;
+            picture.keep(state);
+            return state != DAMAGED || settings.hasMarks() && damaged < MOST_DAMAGED;
         }
 
         private int readPlain(int row) {

@@ -30,6 +30,10 @@ public final class RowsTest extends Promise {
         checks.same("damaged rows stay told", filter.told(6), 1);
         filter.read(24);
         checks.same("state, read again", filter.state(3), 3);
+        reads(filter, MARK + "10011" + marks(2), "10/2", 17 + 12, 0);
+        filter.put(0, 9, 10, true);
+        checks.same("state of the first row after a put", filter.state(0), 0);
+        reads(filter, MARK + "10001" + MARK + "10001" + marks(2), "10/0, 10/0", 2 * 17 + 12, 0);
         filter.clear();
         for (int row = 0; row < 4; row++) {
             filter.row();
