@@ -441,15 +441,15 @@ public final class FaxFilter {
         }
     }
 
-    /** The bytes written last, bit by bit. */
+    /** The bytes written last, bit by bit: 64 bits to a word, from its highest one on. */
     private static final class BitsOut {
-        private final byte[] bytes;
+        private final long[] words;
         private int bits;
 
         BitsOut(int columns) {
             // No code of a row takes more than seven bits a place, but for a first or last run of
             // 0 places; with that, the mark and what stands before it a row stays below 60 more.
-            bytes = new byte[MOST_ROWS * (7 * columns + 60) / 8 + 16];
+            words = new long[MOST_ROWS * (7 * columns + 60) / 64 + 3];
         }
 
         void restart() {
@@ -461,16 +461,18 @@ public final class FaxFilter {
         }
 
         int byteAt(int i) {
-            return i >= 0 && i < bytes.length ? bytes[i] & 255 : 0;
+            int word = i / 8;
+            return i >= 0 && word < words.length ? (int) (words[word] >>> 56 - i % 8 * 8) & 255 : 0;
         }
 
         void send(int value, int count) {
             for (int i = count - 1; i >= 0; i--) {
-                int at = bits / 8;
-                int shift = 7 - bits % 8;
-                if (at >= 0 && at < bytes.length) {
-                    int before = shift == 7 ? 0 : bytes[at];
-                    bytes[at] = (byte) (before | (value >> i & 1) << shift);
+                int word = bits / 64;
+                int shift = 63 - bits % 64;
+                if (word >= 0 && word < words.length) {
+                    // What an earlier writing left in a word goes with the first bit of this one.
+                    long before = shift == 63 ? 0L : words[word];
+                    words[word] = before | (long) (value >> i & 1) << shift;
                     bits++;
                 }
             }

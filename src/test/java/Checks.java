@@ -31,6 +31,10 @@ final class Checks {
         }
     }
 
+    int made() {
+        return made;
+    }
+
     boolean areAllRight() {
         return wrong == 0;
     }

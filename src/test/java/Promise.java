@@ -54,10 +54,19 @@ abstract class Promise {
 
     /** Reads these bits alone: the picture, the bits passed and the damaged rows that are due. */
     void reads(FaxFilter filter, String bits, String picture, int passed, int damaged) {
+        reads(24, filter, bits, picture, passed, damaged);
+    }
+
+    /** As reads, but only so many rows are asked for, and none is damaged. */
+    void readsSome(int most, FaxFilter filter, String bits, String picture, int passed) {
+        reads(most, filter, bits, picture, passed, 0);
+    }
+
+    void reads(int most, FaxFilter filter, String bits, String picture, int passed, int damaged) {
         filter.drop();
         collect(filter, bits);
         int collected = filter.told(3);
-        int rows = filter.read(24);
+        int rows = filter.read(most);
         checks.same("rows of " + bits, rows, filter.told(2));
         checks.same("reading " + bits, picture(filter), picture);
         checks.same("bits passed of " + bits, filter.told(5), passed);

@@ -41,16 +41,6 @@ public final class ReadTest extends Promise {
         reads(one, "011011 00111111 011 0000000", "1/0, 0 1/0", 17, 0);
     }
 
-    /** As reads, but only so many rows are asked for. */
-    private void readsSome(int most, FaxFilter filter, String bits, String picture, int passed) {
-        filter.drop();
-        collect(filter, bits);
-        filter.read(most);
-        checks.same("reading " + bits, picture(filter), picture);
-        checks.same("bits passed of " + bits, filter.told(5), passed);
-        checks.same("damaged rows of " + bits, filter.told(6), 0);
-    }
-
     private void plainRowsWithoutCode() {
         FaxFilter filter = filter(0, 10);
         // Less than twelve bits that begin with no code: bits end.
