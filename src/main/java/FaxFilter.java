@@ -449,7 +449,7 @@ public final class FaxFilter {
         BitsOut(int columns) {
             // No code of a row takes more than seven bits a place, but for a first or last run of
             // 0 places; with that, the mark and what stands before it a row stays below 60 more.
-            words = new long[MOST_ROWS * (7 * columns + 60) / 64 + 3];
+            words = new long[MOST_ROWS * (7 * columns + 60) / 64 + 4];
         }
 
         void restart() {
@@ -465,17 +465,23 @@ public final class FaxFilter {
             return i >= 0 && word < words.length ? (int) (words[word] >>> 56 - i % 8 * 8) & 255 : 0;
         }
 
+        /** Sends as many bits, less than 32, which are the lowest ones of the value. */
         void send(int value, int count) {
-            for (int i = count - 1; i >= 0; i--) {
-                int word = bits / 64;
-                int shift = 63 - bits % 64;
-                if (word >= 0 && word < words.length) {
-                    // What an earlier writing left in a word goes with the first bit of this one.
-                    long before = shift == 63 ? 0L : words[word];
-                    words[word] = before | (long) (value >> i & 1) << shift;
-                    bits++;
-                }
+            int word = bits / 64;
+            int free = 64 - bits % 64;
+            if (word < 0 || word + 1 >= words.length) {
+                return;
             }
+            // What an earlier writing left in a word goes with the first bits of this one.
+            long before = free == 64 ? 0L : words[word];
+            if (count <= free) {
+                words[word] = before | (long) value << free - count;
+            } else {
+                int behind = count - free;
+                words[word] = before | value >>> behind;
+                words[word + 1] = (long) value << 64 - behind;
+            }
+            bits += count;
         }
 
         /** Bits 0 until as many more bits would end a byte. */
@@ -557,7 +563,8 @@ public final class FaxFilter {
         }
 
         private int bitAt(int i) {
-            return byteAt(i / 8) >> 7 - i % 8 & 1;
+            int at = i / 8;
+            return i >= 0 && at < size && at < bytes.length ? bytes[at] >> 7 - i % 8 & 1 : 0;
         }
 
         private int byteAt(int i) {

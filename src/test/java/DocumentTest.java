@@ -25,7 +25,8 @@ public final class DocumentTest {
                 }
             });
         }
-        CHECKS.same("words of the document without a test", left.toString().replaceAll("[^A-Za-z0-9]+", " ").strip(), "");
+        String forgotten = left.toString().replaceAll("[^A-Za-z0-9]+", " ").strip();
+        CHECKS.same("words of the document without a test", forgotten, "");
         CHECKS.end("DocumentTest");
     }
 

@@ -460,7 +460,8 @@ public final class ReadEdgesTest extends Edges {
         readsSome(1, wide, "001" + MAKE_64 + MAKE_64 + white(2) + DARK_MAKE_64 + DARK_MAKE_64 + dark(1) + "1",
             "130 129 441/0", 3 + 14 + 27 + 1);
         // The colour stays: white, as before.
-        readsBelow("001" + white(1) + dark(1) + "001" + white(1) + dark(1) + "0001 1", "1 1 1 1 16/0", 3 + 9 + 3 + 9 + 5);
+        String ones = "001" + white(1) + dark(1);
+        readsBelow(ones + ones + "0001 1", "1 1 1 1 16/0", 12 + 12 + 5);
     }
 
     @Sentence("both cut at COLUMNS (1);")

@@ -159,8 +159,10 @@ public final class TermsEdgesTest extends Edges {
     void longRuns() {
         int[] runs = {1, 62, 63, 64, 65, 127, 128, 129, 191, 192, 639, 640, 641, 699, 700};
         for (int run : runs) {
-            String white = run < 64 ? Model.code(false, run) : Model.code(false, run / 64 * 64) + Model.code(false, run % 64);
-            String dark = run < 64 ? Model.code(true, run) : Model.code(true, run / 64 * 64) + Model.code(true, run % 64);
+            String whiteMake = run < 64 ? "" : Model.code(false, run / 64 * 64);
+            String darkMake = run < 64 ? "" : Model.code(true, run / 64 * 64);
+            String white = whiteMake + Model.code(false, run % 64);
+            String dark = darkMake + Model.code(true, run % 64);
             sendsAndReads(drawn(0, run, ends(), ends(0, run)), white + Model.code(false, 0) + dark);
             if (run > 3) {
                 sendsAndReads(drawn(2, run, ends(0, run)), "001" + Model.code(false, 0) + dark + marks(2));

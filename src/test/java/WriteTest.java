@@ -12,6 +12,7 @@ public final class WriteTest extends Promise {
         test.drawnRowsByEachWay();
         test.drawnRowsAtTheFirstPlace();
         test.dense();
+        test.densest();
         test.checks.end("WriteTest");
     }
 
@@ -161,5 +162,37 @@ public final class WriteTest extends Promise {
         checks.same("taken", wide.take(), 395);
         checks.same("read back", wide.read(24), 1);
         checks.same("runs back", wide.runs(0), 701);
+    }
+
+    /** As many bits a place as there can be, in 24 rows, each shifted against the one above. */
+    private void densest() {
+        for (int kind = 0; kind <= 2; kind++) {
+            for (int columns : new int[] {1, 2, 3, 7, 40}) {
+                for (int shift = 0; shift <= 3; shift++) {
+                    densest(kind, columns, shift, 2 + kind % 2);
+                }
+            }
+        }
+    }
+
+    private void densest(int kind, int columns, int shift, int period) {
+        FaxFilter filter = filter(kind, columns, 0, 1);
+        Model model = new Model(kind, columns);
+        model.settings[0] = true;
+        model.settings[1] = true;
+        for (int row = 0; row < 24; row++) {
+            filter.row();
+            model.rows.add(new boolean[columns]);
+            model.states.add(0);
+            for (int x = Math.max(0, 72 - row * shift) % period; x < columns; x += period) {
+                filter.put(row, x, x + 1, true);
+                model.rows.get(row)[x] = true;
+            }
+        }
+        String name = "kind " + kind + ", columns " + columns + ", shift " + shift;
+        checks.same(name, filter.write(), model.write());
+        for (int i = 0; i < model.written.size(); i++) {
+            checks.same(name + ", byte " + i, filter.octet(i), model.written.get(i));
+        }
     }
 }
